@@ -1,0 +1,129 @@
+import java.io.IOException;
+import java.lang.reflect.Constructor;
+import java.lang.reflect.Field;
+import java.lang.reflect.Method;
+import java.lang.reflect.Modifier;
+import java.nio.file.Files;
+import java.nio.file.Path;
+import java.util.Set;
+import java.util.TreeSet;
+
+/** The face is that of the document, and the file keeps to what can be seen of LANGUAGE.md. */
+final class FaceTest {
+    private static final String INDEX = " IndexOutOfBoundsException";
+    private static final String ARGUMENT = " IllegalArgumentException";
+    private static final String STATE = " IllegalStateException";
+
+    private static final String[] METHODS = {
+        "int setRule(int)" + INDEX + STATE,
+        "int set(int,int,int,int)" + INDEX + ARGUMENT + STATE,
+        "int strike(int,int)" + INDEX + STATE,
+        "int undo(int)" + INDEX + STATE,
+        "int come(int)" + INDEX + STATE,
+        "int meet()",
+        "int letter(int,int)" + INDEX,
+        "int author(int,int)" + INDEX,
+        "int about(int,int)" + INDEX,
+        "int way(int,int,int)" + INDEX,
+        "int count(int)" + INDEX,
+        "int first()",
+        "int page(int)" + INDEX,
+        "int goes(int,int)" + INDEX,
+        "int lost(int)" + INDEX,
+        "int would(int,int,int,int)" + INDEX + ARGUMENT,
+        "int undoes(int)" + INDEX,
+        "double mean()",
+        "long digest()",
+    };
+
+    private static final String[] FORBIDDEN = {
+        "->", "::", "catch", "finally", "synchronized", "instanceof", "import ", "package ",
+        "System.", "static {", "protected ", "native ", "toString", "hashCode", "equals(",
+    };
+
+    private FaceTest() {
+    }
+
+    private static String list(Class<?>[] types) {
+        StringBuilder text = new StringBuilder();
+        for (Class<?> type : types) {
+            text.append(text.length() == 0 ? "" : ",").append(type.getSimpleName());
+        }
+        return text.toString();
+    }
+
+    private static String face(Method method) {
+        StringBuilder text = new StringBuilder(method.getReturnType().getSimpleName());
+        text.append(' ').append(method.getName());
+        text.append('(').append(list(method.getParameterTypes())).append(')');
+        for (Class<?> thrown : method.getExceptionTypes()) {
+            text.append(' ').append(thrown.getSimpleName());
+        }
+        return text.toString();
+    }
+
+    private static void methods(Set<String> names) {
+        Set<String> due = new TreeSet<>(Set.of(METHODS));
+        Set<String> found = new TreeSet<>();
+        for (Method method : TwoScribes.class.getDeclaredMethods()) {
+            if (!Modifier.isPrivate(method.getModifiers())) {
+                found.add(face(method));
+                names.add(method.getName());
+                Check.same(method + " is public alone", method.getModifiers(), Modifier.PUBLIC);
+            }
+        }
+        Check.same("methods of the face", found.toString(), due.toString());
+    }
+
+    private static void privates(Class<?> type, Set<String> names) {
+        for (Method method : type.getDeclaredMethods()) {
+            if (Modifier.isPrivate(method.getModifiers())) {
+                Check.same(method + " bears a name of the face",
+                        names.contains(method.getName()) ? 1 : 0, 0);
+            }
+        }
+        for (Field field : type.getDeclaredFields()) {
+            int kind = field.getModifiers();
+            Check.same(field + " is private", Modifier.isPrivate(kind) ? 1 : 0, 1);
+            Check.same(field + " is final if static",
+                    Modifier.isStatic(kind) && !Modifier.isFinal(kind) ? 1 : 0, 0);
+        }
+    }
+
+    private static void face() {
+        Class<?> type = TwoScribes.class;
+        Check.same("public and final", type.getModifiers(), Modifier.PUBLIC | Modifier.FINAL);
+        Check.same("no interface", type.getInterfaces().length, 0);
+        Constructor<?>[] makers = type.getDeclaredConstructors();
+        Check.same("one constructor", makers.length, 1);
+        Check.same("of no parameter", makers[0].getParameterCount(), 0);
+        Check.same("a public one", makers[0].getModifiers(), Modifier.PUBLIC);
+        Set<String> names = new TreeSet<>();
+        methods(names);
+        privates(type, names);
+        for (Class<?> inside : type.getDeclaredClasses()) {
+            int kind = inside.getModifiers();
+            Check.same(inside + " is private", Modifier.isPrivate(kind) ? 1 : 0, 1);
+            Check.same(inside + " is static", Modifier.isStatic(kind) ? 1 : 0, 1);
+            privates(inside, names);
+        }
+    }
+
+    private static void file(String path) throws IOException {
+        String text = Files.readString(Path.of(path));
+        for (String word : FORBIDDEN) {
+            Check.same("where the file says '" + word + "'", text.indexOf(word), -1);
+        }
+        for (int i = 0; i < text.length(); i++) {
+            if (text.charAt(i) > 126) {
+                Check.tell("the file has the sign " + (int) text.charAt(i) + " at " + i);
+            }
+        }
+    }
+
+    public static void main(String[] args) throws IOException {
+        face();
+        file(args.length > 0 ? args[0] : "src/main/java/TwoScribes.java");
+        Check.end();
+    }
+}
