@@ -7,6 +7,8 @@ public final class TwoScribes {
     private static final int SETS = 1;
     private static final int STRIKES = 2;
 
+    private static final int NO_MARK = -1;
+
     private static final int LAST_LETTER = 25;
     private static final int LAST_RULE = 2;
     private static final int FULL_COPY = 40;
@@ -22,7 +24,7 @@ public final class TwoScribes {
     private final Scribe zero = new Scribe();
     private final Scribe one = new Scribe();
     // Used again for each stroke that is looked at on its way, so that no call makes many objects.
-    private final Stroke met = new Stroke(NOTHING, -1, -1, -1, -1);
+    private final Stroke met = new Stroke(NOTHING, -1, -1, -1, NO_MARK);
     private int rule;
     private int ties;
     private int marks;
@@ -218,7 +220,7 @@ public final class TwoScribes {
             throws IndexOutOfBoundsException, IllegalArgumentException {
         checkGap(scribe, place);
         checkLetter(letter, intent);
-        Stroke own = new Stroke(SETS, place, letter, intent, -1);
+        Stroke own = new Stroke(SETS, place, letter, intent, NO_MARK);
         Way way = who(scribe).way;
         int size = way.size();
         for (int number = 0; number < size; number++) {
@@ -311,7 +313,7 @@ public final class TwoScribes {
     }
 
     private static Stroke strikeAt(int place) {
-        return new Stroke(STRIKES, place, -1, -1, -1);
+        return new Stroke(STRIKES, place, -1, -1, NO_MARK);
     }
 
     private void write(int scribe, Stroke own) {
@@ -462,7 +464,7 @@ public final class TwoScribes {
                 sum = sum * 31 + way(scribe, number, what);
             }
         }
-        return sum * 31 + undoes(scribe);
+        return sum * 31 + placeOfUndoing(scribe);
     }
 
     /** Numbers in a row of a fixed room: outside it nothing is read but -1, and nothing written. */
@@ -520,8 +522,9 @@ public final class TwoScribes {
         private int place;
         private int letter;
         private int intent;
-        // Tells the letter that is set from all others, on both copies.
-        private int mark;
+        // Tells the letter that is set from all others on the own copy, for undoing; a scribe undoes
+        // own strokes alone, so it is not sent, and the letters of the other one have none.
+        private final int mark;
 
         private Stroke(int kind, int place, int letter, int intent, int mark) {
             this.kind = kind;
@@ -565,7 +568,6 @@ public final class TwoScribes {
         private final Row places = new Row(FULL_WAY);
         private final Row letters = new Row(FULL_WAY);
         private final Row intents = new Row(FULL_WAY);
-        private final Row marks = new Row(FULL_WAY);
 
         private int size() {
             return kinds.size;
@@ -576,7 +578,6 @@ public final class TwoScribes {
             into.place = places.at(number);
             into.letter = letters.at(number);
             into.intent = intents.at(number);
-            into.mark = marks.at(number);
         }
 
         private void append(Stroke stroke) {
@@ -584,7 +585,6 @@ public final class TwoScribes {
             places.append(stroke.place);
             letters.append(stroke.letter);
             intents.append(stroke.intent);
-            marks.append(stroke.mark);
         }
 
         private void move(int number, Stroke moved) {
@@ -597,7 +597,6 @@ public final class TwoScribes {
             places.remove(0);
             letters.remove(0);
             intents.remove(0);
-            marks.remove(0);
         }
 
         /** How many letters more a copy has when all have come. */
@@ -659,7 +658,7 @@ public final class TwoScribes {
 
     /**
      * The strokes of a scribe that can be undone still. One that set has its mark, and -1 for place
-     * and letter; one that struck has the place where its letter was and the letter, and the mark -1.
+     * and letter; one that struck has the place where its letter was and the letter, and no mark.
      */
     private static final class Past {
         private final Row places = new Row(PAST_ROOM);
@@ -679,11 +678,11 @@ public final class TwoScribes {
         private void addStrike(int place, int letter) {
             places.append(place);
             letters.append(letter);
-            marks.append(-1);
+            marks.append(NO_MARK);
         }
 
         private boolean lastStruck() {
-            return lastPlace() >= 0;
+            return places.at(places.size - 1) >= 0;
         }
 
         private int lastPlace() {

@@ -364,6 +364,12 @@ final class PromisesTest {
         Check.same("5: on the other copy", copy(x, 0) + authors(x, 0), "abcd0100");
         Check.same("5: not to be undone", x.about(1, 2), 0);
 
+        x.strike(0, 2);
+        x.set(0, 0, 25, 0);
+        x.undo(0);
+        Check.same("5: the set behind it undone ahead of it", x.undo(0), 2);
+        Check.same("5: its letter all the same", copy(x, 0) + authors(x, 0), "abcd0100");
+
         TwoScribes y = with("abc");
         y.strike(0, 0);
         y.strike(1, 0);
@@ -672,6 +678,10 @@ final class PromisesTest {
         Check.same("16: 0", x.lost(0), 1);
         Check.same("16: 1", x.lost(1), 1);
         x.strike(1, 2);
+        TwoScribes y = with("ab");
+        y.strike(1, 0);
+        Check.same("15: the first place", goesAll(y, 0) + " " + goesAll(y, 1), "-1 0 0");
+        Check.same("16: the first place", y.lost(0) * 10 + y.lost(1), 10);
         Check.same("15: both struck, 0", goesAll(x, 0), "0 -1 -1");
         Check.same("16: both struck, 0", x.lost(0), 2);
         x.come(1);
