@@ -165,6 +165,17 @@ final class ModelTest {
         }
     }
 
+    /** More strokes to undo than the class has room for, which 512 calls can't write. */
+    private static void manyToUndo() {
+        TwoScribes x = new TwoScribes();
+        for (int time = 0; time < 2 * CALLS; time++) {
+            Check.same("set beyond the end", Check.outcome(() -> x.set(0, 0, 1, 0)), "1");
+            Check.same("come beyond the end", Check.outcome(() -> x.come(1)), "1");
+            Check.same("strike beyond the end", Check.outcome(() -> x.strike(0, 0)), "1");
+            Check.same("come beyond the end", Check.outcome(() -> x.come(1)), "2");
+        }
+    }
+
     public static void main(String[] args) {
         for (int number = 1; number <= RUNS && !Check.anyWrong(); number++) {
             new ModelTest(number).run(number);
@@ -172,6 +183,7 @@ final class ModelTest {
         for (int number = 1; number <= 40 && !Check.anyWrong(); number++) {
             new ModelTest(number).runOn(number);
         }
+        manyToUndo();
         Check.end();
     }
 }
