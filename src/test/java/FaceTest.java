@@ -38,6 +38,12 @@ final class FaceTest {
         "long digest()",
     };
 
+    /** What the interface says ahead of which calls. */
+    private static final String CALLS_BY_HEADING = "---- writing: setRule set strike undo "
+            + "---- messengers: come meet "
+            + "---- what is there: letter author about way count first "
+            + "---- what will be: page goes lost would undoes mean digest ";
+
     /** What LANGUAGE.md leaves no room for, by the number of its rule, comments aside. */
     private static final String[] FORBIDDEN = {
         "1 package\\s", "1 \\bprotected\\b", "1 \\bnative\\b",
@@ -130,9 +136,20 @@ final class FaceTest {
         }
     }
 
+    private static void headings(String text) {
+        StringBuilder found = new StringBuilder();
+        Matcher line = Pattern.compile("// (----.*)|public (?:int|long|double) (\\w+)\\(")
+                .matcher(text.substring(0, text.indexOf("public long digest(") + 20));
+        while (line.find()) {
+            found.append(line.group(1) != null ? line.group(1) + ": " : line.group(2) + " ");
+        }
+        Check.same("what the interface says", found.toString(), CALLS_BY_HEADING);
+    }
+
     private static void file(String path) throws IOException {
         String text = Files.readString(Path.of(path));
         String code = text.replaceAll("(?s)/\\*.*?\\*/", "").replaceAll("//[^\n]*", "");
+        headings(text);
         for (String rule : FORBIDDEN) {
             String form = rule.substring(rule.indexOf(' ') + 1);
             Matcher found = Pattern.compile(form).matcher(code);
